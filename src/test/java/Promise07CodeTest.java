@@ -5,6 +5,7 @@ public final class Promise07CodeTest {
     public static void main(String[] args) {
         noneBeforeTheFirstEncode();
         wordsAndTheirEnd();
+        nothingOfALongerCodeIsLeft();
         Check.end();
     }
 
@@ -42,6 +43,15 @@ public final class Promise07CodeTest {
         Check.due("code(2) of 17 octets", x.code(2), 0x4000000000000000L);
         Check.dueThrow("code(3) of 17 octets", IndexOutOfBoundsException.class, () -> x.code(3));
         dueNever(x);
+    }
+
+    private static void nothingOfALongerCodeIsLeft() {
+        ChunkCode x = Check.chunk(0, Long.MIN_VALUE);
+        Check.due("encode()", x.encode(), 19);
+        x.put(0, -1);
+        Check.due("encode()", x.encode(), 10);
+        Check.due("code(1) behind a longer code", x.code(1), 0x0101000000000000L);
+        Check.dueThrow("code(2) behind a longer code", IndexOutOfBoundsException.class, () -> x.code(2));
     }
 
     private static void dueNever(ChunkCode x) {

@@ -14,6 +14,7 @@ public final class Promise09DecodeTest {
         moreThanTheCodeHas();
         theFirstWrongOctetCounts();
         cellsStayAndNothingIsFed();
+        cellsThatCameInStayToo();
         longestCodeComesIn();
         Check.end();
     }
@@ -144,6 +145,19 @@ public final class Promise09DecodeTest {
         Check.due("get(1)", x.get(1), 7);
         x.put(0, 4);
         Check.due("sum(0, 63)", x.sum(0, 63), 11);
+    }
+
+    private static void cellsThatCameInStayToo() {
+        ChunkCode x = new ChunkCode();
+        for (int times = 0; times < 3; times++) {
+            Check.feedHex(x, TWO + "01 0e 01 02");
+            Check.due("decode()", x.decode(), 2);
+            Check.feedHex(x, "0700000000000000 01 02 01 02 01");
+            Check.dueThrow("decode()", IllegalArgumentException.class, x::decode);
+            Check.due("count(0)", x.count(0), 2);
+            Check.due("get(0)", x.get(0), 7);
+            Check.due("get(1)", x.get(1), 8);
+        }
     }
 
     private static void longestCodeComesIn() {
