@@ -6,8 +6,14 @@ final class Check {
     }
 
     private static int failures = 0;
+    private static String sentence = "";
 
     private Check() {
+    }
+
+    /** The document's sentence that is tested from here on: a failure tells it. */
+    static void sentence(String text) {
+        sentence = " | " + text;
     }
 
     static void due(String what, long got, long want) {
@@ -35,7 +41,7 @@ final class Check {
 
     static void failed(String text) {
         failures++;
-        System.out.println(text);
+        System.out.println(text + sentence);
     }
 
     static void end() {
@@ -51,6 +57,33 @@ final class Check {
             x.put((int) cellsAndNumbers[i], cellsAndNumbers[i + 1]);
         }
         return x;
+    }
+
+    /** No cell is empty, and each has a number of its own. */
+    static ChunkCode fullChunk() {
+        ChunkCode x = new ChunkCode();
+        for (int k = 0; k < 64; k++) {
+            x.put(k, numberOf(k));
+        }
+        return x;
+    }
+
+    static long numberOf(int k) {
+        return 100 + 3 * k;
+    }
+
+    /** The cells alone, as one text. */
+    static String cells(ChunkCode x) {
+        String state = state(x);
+        return state.substring(0, state.indexOf(" count"));
+    }
+
+    /** The code of the cells as they are, which encode() makes anew. */
+    static String hexOfCells(ChunkCode x) {
+        int length = x.encode();
+        String hex = hexOfMade(x);
+        due("encode() and count(3)", length, hex.length() / 2);
+        return hex;
     }
 
     /** Every call that answers about the state, as one text: two equal texts are two equal states. */

@@ -19,112 +19,89 @@ public final class Promise09DecodeTest {
         Check.end();
     }
 
-    private static void dueCells(String hex, int many, String cells) {
-        // What was there before must be gone, so it starts with other cells.
-        ChunkCode x = Check.chunk(0, 77, 40, 78, 63, 79);
-        Check.feedHex(x, hex);
-        Check.due("decode() of " + hex, x.decode(), many);
-        String state = Check.state(x);
-        Check.due("cells of " + hex, state.substring(0, state.indexOf(" count")), cells);
-        Check.due("wrong() behind " + hex, x.wrong(), -1);
-        Check.due("count(2) behind " + hex, x.count(2), 0);
-        x.encode();
-        Check.due("encoded again", Check.hexOfMade(x), hex.replace(" ", ""));
-    }
-
-    private static void dueWrong(String hex, int at) {
-        ChunkCode x = Check.chunk(0, 77, 40, 78, 63, 79);
-        Check.feedHex(x, hex);
-        Check.dueThrow("decode() of " + hex, IllegalArgumentException.class, x::decode);
-        Check.due("wrong() of " + hex, x.wrong(), at);
-        Check.due("count(2) behind " + hex, x.count(2), 0);
-        Check.due("cells behind " + hex, Check.state(x),
-            "0=77 40=78 63=79  count0=3 count1=3 count2=0 count3=0 count4=15 wrong=" + at + " code=");
-    }
-
     private static void codesComeIn() {
-        dueCells("0000000000000000", 0, "");
-        dueCells(ONE + "00", 1, "0=0 ");
-        dueCells(ONE + "01", 1, "0=-1 ");
-        dueCells(ONE + "02", 1, "0=1 ");
-        dueCells(ONE + "8001", 1, "0=64 ");
-        dueCells(ONE + "ff7f", 1, "0=-8192 ");
-        dueCells(ONE + NINE_NONE + "01", 1, "0=" + (1L << 62) + " ");
-        dueCells(ONE + "fe" + NINE_FULL.substring(2) + "01", 1, "0=" + Long.MAX_VALUE + " ");
-        dueCells(ONE + NINE_FULL + "01", 1, "0=" + Long.MIN_VALUE + " ");
-        dueCells("0806000000000000 02 0a 01 0b", 3, "3=5 9=5 10=-1 ");
-        dueCells("0100000000000080 02 06", 2, "0=3 63=3 ");
-        dueCells("0700000000000000 01 0a 01 01 01 02", 3, "0=5 1=4 2=5 ");
-        dueCells(TWO + "01 fe" + NINE_FULL.substring(2) + "01 01 02", 2,
+        Decoding.dueCells("0000000000000000", 0, "");
+        Decoding.dueCells(ONE + "00", 1, "0=0 ");
+        Decoding.dueCells(ONE + "01", 1, "0=-1 ");
+        Decoding.dueCells(ONE + "02", 1, "0=1 ");
+        Decoding.dueCells(ONE + "8001", 1, "0=64 ");
+        Decoding.dueCells(ONE + "ff7f", 1, "0=-8192 ");
+        Decoding.dueCells(ONE + NINE_NONE + "01", 1, "0=" + (1L << 62) + " ");
+        Decoding.dueCells(ONE + "fe" + NINE_FULL.substring(2) + "01", 1, "0=" + Long.MAX_VALUE + " ");
+        Decoding.dueCells(ONE + NINE_FULL + "01", 1, "0=" + Long.MIN_VALUE + " ");
+        Decoding.dueCells("0806000000000000 02 0a 01 0b", 3, "3=5 9=5 10=-1 ");
+        Decoding.dueCells("0100000000000080 02 06", 2, "0=3 63=3 ");
+        Decoding.dueCells("0700000000000000 01 0a 01 01 01 02", 3, "0=5 1=4 2=5 ");
+        Decoding.dueCells(TWO + "01 fe" + NINE_FULL.substring(2) + "01 01 02", 2,
             "0=" + Long.MAX_VALUE + " 1=" + Long.MIN_VALUE + " ");
     }
 
     private static void endsTooSoon() {
-        dueWrong("", 0);
-        dueWrong("01", 1);
-        dueWrong("00000000000000", 7);
-        dueWrong("ffffffffffffff", 7);
-        dueWrong("0100000000000000", 8);
-        dueWrong(ONE, 9);
-        dueWrong(ONE + "80", 10);
-        dueWrong(ONE + NINE_FULL, 18);
-        dueWrong(TWO + "01 02", 10);
-        dueWrong(TWO + "01 02 01", 11);
-        dueWrong(TWO + "01 02 01 ff", 12);
+        Decoding.dueWrong("", 0);
+        Decoding.dueWrong("01", 1);
+        Decoding.dueWrong("00000000000000", 7);
+        Decoding.dueWrong("ffffffffffffff", 7);
+        Decoding.dueWrong("0100000000000000", 8);
+        Decoding.dueWrong(ONE, 9);
+        Decoding.dueWrong(ONE + "80", 10);
+        Decoding.dueWrong(ONE + NINE_FULL, 18);
+        Decoding.dueWrong(TWO + "01 02", 10);
+        Decoding.dueWrong(TWO + "01 02 01", 11);
+        Decoding.dueWrong(TWO + "01 02 01 ff", 12);
     }
 
     private static void wrongSizes() {
-        dueWrong("0100000000000000 00 00", 8);
-        dueWrong("0100000000000000 02 00", 8);
-        dueWrong("0100000000000000 81 00", 8);
-        dueWrong("0100000000000000 ff 00", 8);
-        dueWrong(TWO + "01 02 00 02", 10);
-        dueWrong(TWO + "01 02 02 02", 10);
-        dueWrong("ffffffffffffffff 41 00", 8);
-        dueWrong("ffffffffffffffff 3f 00 02 02", 10);
-        dueCells("00ff000000000000 07 02 01 02", 8, "8=1 9=1 10=1 11=1 12=1 13=1 14=1 15=2 ");
+        Decoding.dueWrong("0100000000000000 00 00", 8);
+        Decoding.dueWrong("0100000000000000 02 00", 8);
+        Decoding.dueWrong("0100000000000000 81 00", 8);
+        Decoding.dueWrong("0100000000000000 ff 00", 8);
+        Decoding.dueWrong(TWO + "01 02 00 02", 10);
+        Decoding.dueWrong(TWO + "01 02 02 02", 10);
+        Decoding.dueWrong("ffffffffffffffff 41 00", 8);
+        Decoding.dueWrong("ffffffffffffffff 3f 00 02 02", 10);
+        Decoding.dueCells("00ff000000000000 07 02 01 02", 8, "8=1 9=1 10=1 11=1 12=1 13=1 14=1 15=2 ");
     }
 
     private static void wrongNumbers() {
-        dueWrong(ONE + "8000", 10);
-        dueWrong(ONE + "ff00", 10);
-        dueWrong(ONE + "ff808000", 12);
-        dueWrong(ONE + NINE_NONE + "00", 18);
-        dueWrong(ONE + NINE_FULL + "00", 18);
-        dueWrong(ONE + NINE_FULL + "02", 18);
-        dueWrong(ONE + NINE_FULL + "03", 18);
-        dueWrong(ONE + NINE_FULL + "7f", 18);
+        Decoding.dueWrong(ONE + "8000", 10);
+        Decoding.dueWrong(ONE + "ff00", 10);
+        Decoding.dueWrong(ONE + "ff808000", 12);
+        Decoding.dueWrong(ONE + NINE_NONE + "00", 18);
+        Decoding.dueWrong(ONE + NINE_FULL + "00", 18);
+        Decoding.dueWrong(ONE + NINE_FULL + "02", 18);
+        Decoding.dueWrong(ONE + NINE_FULL + "03", 18);
+        Decoding.dueWrong(ONE + NINE_FULL + "7f", 18);
         // The tenth octet holds the last bit, so that none can say that one more comes.
-        dueWrong(ONE + NINE_FULL + "80", 18);
-        dueWrong(ONE + NINE_FULL + "81", 18);
-        dueWrong(ONE + NINE_FULL + "8101", 18);
-        dueWrong(ONE + NINE_FULL + "ff01", 18);
-        dueWrong(TWO + "01 02 01 8000", 12);
-        dueWrong(TWO + "01 02 01 " + NINE_FULL + "02", 20);
+        Decoding.dueWrong(ONE + NINE_FULL + "80", 18);
+        Decoding.dueWrong(ONE + NINE_FULL + "81", 18);
+        Decoding.dueWrong(ONE + NINE_FULL + "8101", 18);
+        Decoding.dueWrong(ONE + NINE_FULL + "ff01", 18);
+        Decoding.dueWrong(TWO + "01 02 01 8000", 12);
+        Decoding.dueWrong(TWO + "01 02 01 " + NINE_FULL + "02", 20);
     }
 
     private static void zeroBehindTheFirstRun() {
-        dueWrong(TWO + "01 02 01 00", 11);
-        dueWrong(TWO + "01 00 01 00", 11);
-        dueWrong("0700000000000000 01 02 01 02 01 00", 13);
-        dueWrong("0700000000000000 01 02 01 00 01 00", 11);
-        dueCells(TWO + "02 00", 2, "0=0 1=0 ");
-        dueCells(TWO + "01 00 01 01", 2, "0=0 1=-1 ");
-        dueCells(TWO + "01 02 01 8001", 2, "0=1 1=65 ");
+        Decoding.dueWrong(TWO + "01 02 01 00", 11);
+        Decoding.dueWrong(TWO + "01 00 01 00", 11);
+        Decoding.dueWrong("0700000000000000 01 02 01 02 01 00", 13);
+        Decoding.dueWrong("0700000000000000 01 02 01 00 01 00", 11);
+        Decoding.dueCells(TWO + "02 00", 2, "0=0 1=0 ");
+        Decoding.dueCells(TWO + "01 00 01 01", 2, "0=0 1=-1 ");
+        Decoding.dueCells(TWO + "01 02 01 8001", 2, "0=1 1=65 ");
     }
 
     private static void moreThanTheCodeHas() {
-        dueWrong("0000000000000000 00", 8);
-        dueWrong("0000000000000000 01 00", 8);
-        dueWrong(ONE + "02 00", 10);
-        dueWrong(ONE + "02 01 02", 10);
-        dueWrong(TWO + "02 02 01 02", 10);
+        Decoding.dueWrong("0000000000000000 00", 8);
+        Decoding.dueWrong("0000000000000000 01 00", 8);
+        Decoding.dueWrong(ONE + "02 00", 10);
+        Decoding.dueWrong(ONE + "02 01 02", 10);
+        Decoding.dueWrong(TWO + "02 02 01 02", 10);
     }
 
     private static void theFirstWrongOctetCounts() {
-        dueWrong(TWO + "03 8000 01 00 00", 8);
-        dueWrong(TWO + "01 8000 00 00 00", 10);
-        dueWrong(TWO + "01 02 01 00 00", 11);
+        Decoding.dueWrong(TWO + "03 8000 01 00 00", 8);
+        Decoding.dueWrong(TWO + "01 8000 00 00 00", 10);
+        Decoding.dueWrong(TWO + "01 02 01 00 00", 11);
     }
 
     private static void cellsStayAndNothingIsFed() {
@@ -167,8 +144,8 @@ public final class Promise09DecodeTest {
             hex.append("01").append(NINE_FULL).append("01");
             cells.append(k).append('=').append(k % 2 == 0 ? Long.MIN_VALUE : 0).append(' ');
         }
-        dueCells(hex.toString(), 64, cells.toString());
-        dueWrong(hex + "00", 712);
-        dueWrong(hex.substring(0, 2 * 711), 711);
+        Decoding.dueCells(hex.toString(), 64, cells.toString());
+        Decoding.dueWrong(hex + "00", 712);
+        Decoding.dueWrong(hex.substring(0, 2 * 711), 711);
     }
 }
