@@ -8,29 +8,29 @@ public final class BoundaryCellsTest {
     }
 
     public static void main(String[] args) {
-        allCellsAreEmpty();
-        nothingIsFed();
-        firstNamedIsThrown();
-        throwingChangesNothing();
-        feedThatThrowsChangesNothing();
-        decodeThatThrowsChangesWhatItSays();
-        putFills();
-        putRefuses();
-        eraseEmpties();
-        eraseNone();
-        eraseRefuses();
-        getAnswers();
-        getRefusesNoCell();
-        getRefusesEmptyCell();
-        sumAdds();
-        sumOfNone();
-        sumWraps();
-        sumRefuses();
+        Check.sentence("1: All CELLS are empty", BoundaryCellsTest::allCellsAreEmpty);
+        Check.sentence("1: nothing is fed", BoundaryCellsTest::nothingIsFed);
+        Check.sentence("1: Of two exceptions the one named first is thrown",
+            BoundaryCellsTest::firstNamedIsThrown);
+        Check.sentence("1: a call that throws changes nothing", BoundaryCellsTest::throwingChangesNothing);
+        Check.sentence("1: a call that throws changes nothing", BoundaryCellsTest::feedThatThrowsChangesNothing);
+        Check.sentence("1: but decode(), see there", BoundaryCellsTest::decodeThatThrowsChangesWhatItSays);
+        Check.sentence("2: CELL k is v", BoundaryCellsTest::putFills);
+        Check.sentence("2: IndexOutOfBoundsException: there is none", BoundaryCellsTest::putRefuses);
+        Check.sentence("3: CELLS from a to b are empty", BoundaryCellsTest::eraseEmpties);
+        Check.sentence("3: (none if a is above b)", BoundaryCellsTest::eraseNone);
+        Check.sentence("3: IndexOutOfBoundsException: a or b is none", BoundaryCellsTest::eraseRefuses);
+        Check.sentence("4: The number of a CELL", BoundaryCellsTest::getAnswers);
+        Check.sentence("4: IndexOutOfBoundsException: there is none", BoundaryCellsTest::getRefusesNoCell);
+        Check.sentence("4: UnsupportedOperationException: it is empty", BoundaryCellsTest::getRefusesEmptyCell);
+        Check.sentence("5: CELLS that are not empty, from a to b, added up", BoundaryCellsTest::sumAdds);
+        Check.sentence("5: (none if a is above b)", BoundaryCellsTest::sumOfNone);
+        Check.sentence("5: (wrapping)", BoundaryCellsTest::sumWraps);
+        Check.sentence("5: IndexOutOfBoundsException likewise", BoundaryCellsTest::sumRefuses);
         Check.end();
     }
 
     private static void allCellsAreEmpty() {
-        Check.sentence("1: All CELLS are empty");
         ChunkCode x = new ChunkCode();
         for (int k = 0; k < 64; k++) {
             int cell = k;
@@ -45,7 +45,6 @@ public final class BoundaryCellsTest {
     }
 
     private static void nothingIsFed() {
-        Check.sentence("1: nothing is fed");
         ChunkCode x = new ChunkCode();
         Check.due("count(2)", x.count(2), 0);
         Check.dueThrow("decode()", IllegalArgumentException.class, x::decode);
@@ -56,7 +55,6 @@ public final class BoundaryCellsTest {
     }
 
     private static void firstNamedIsThrown() {
-        Check.sentence("1: Of two exceptions the one named first is thrown");
         ChunkCode x = new ChunkCode();
         feedZeros(x, 992);
         Check.dueThrow("feed(0, 9) with 992 fed", IllegalArgumentException.class, () -> x.feed(0, 9));
@@ -81,7 +79,6 @@ public final class BoundaryCellsTest {
     }
 
     private static void throwingChangesNothing() {
-        Check.sentence("1: a call that throws changes nothing");
         unchangedBy("put(64, 1)", IndexOutOfBoundsException.class, x -> x.put(64, 1));
         unchangedBy("put(-1, 1)", IndexOutOfBoundsException.class, x -> x.put(-1, 1));
         unchangedBy("erase(0, 64)", IndexOutOfBoundsException.class, x -> x.erase(0, 64));
@@ -114,7 +111,6 @@ public final class BoundaryCellsTest {
     }
 
     private static void feedThatThrowsChangesNothing() {
-        Check.sentence("1: a call that throws changes nothing");
         ChunkCode x = new ChunkCode();
         feedZeros(x, 998);
         Check.dueThrow("feed(-1, 3) with 998 fed", IndexOutOfBoundsException.class, () -> x.feed(-1, 3));
@@ -124,7 +120,6 @@ public final class BoundaryCellsTest {
     }
 
     private static void decodeThatThrowsChangesWhatItSays() {
-        Check.sentence("1: but decode(), see there");
         ChunkCode x = Check.chunk(0, 7, 63, -2);
         x.encode();
         Check.feedHex(x, "0100000000000000 01 02 03");
@@ -134,7 +129,6 @@ public final class BoundaryCellsTest {
     }
 
     private static void putFills() {
-        Check.sentence("2: CELL k is v");
         for (int k : new int[] {0, 1, 62, 63}) {
             ChunkCode x = Check.chunk(k, Long.MIN_VALUE);
             Check.due("cells", Check.cells(x), k + "=" + Long.MIN_VALUE + " ");
@@ -146,7 +140,6 @@ public final class BoundaryCellsTest {
     }
 
     private static void putRefuses() {
-        Check.sentence("2: IndexOutOfBoundsException: there is none");
         ChunkCode x = new ChunkCode();
         for (int k : NO_CELLS) {
             Check.dueThrow("put(" + k + ", 1)", IndexOutOfBoundsException.class, () -> { x.put(k, 1); return 0; });
@@ -170,7 +163,6 @@ public final class BoundaryCellsTest {
     }
 
     private static void eraseEmpties() {
-        Check.sentence("3: CELLS from a to b are empty");
         dueErased(0, 63, 0, 63);
         dueErased(0, 0, 0, 0);
         dueErased(63, 63, 63, 63);
@@ -188,7 +180,6 @@ public final class BoundaryCellsTest {
     }
 
     private static void eraseNone() {
-        Check.sentence("3: (none if a is above b)");
         dueErased(1, 0, 64, 64);
         dueErased(63, 62, 64, 64);
         dueErased(63, 0, 64, 64);
@@ -197,7 +188,6 @@ public final class BoundaryCellsTest {
     }
 
     private static void eraseRefuses() {
-        Check.sentence("3: IndexOutOfBoundsException: a or b is none");
         ChunkCode x = Check.fullChunk();
         for (int none : NO_CELLS) {
             for (int cell : new int[] {0, 63}) {
@@ -219,7 +209,6 @@ public final class BoundaryCellsTest {
     }
 
     private static void getAnswers() {
-        Check.sentence("4: The number of a CELL");
         ChunkCode x = Check.chunk(0, Long.MIN_VALUE, 1, -1, 62, 0, 63, Long.MAX_VALUE);
         Check.due("get(0)", x.get(0), Long.MIN_VALUE);
         Check.due("get(1)", x.get(1), -1);
@@ -228,7 +217,6 @@ public final class BoundaryCellsTest {
     }
 
     private static void getRefusesNoCell() {
-        Check.sentence("4: IndexOutOfBoundsException: there is none");
         ChunkCode full = Check.fullChunk();
         ChunkCode empty = new ChunkCode();
         for (int k : NO_CELLS) {
@@ -240,7 +228,6 @@ public final class BoundaryCellsTest {
     }
 
     private static void getRefusesEmptyCell() {
-        Check.sentence("4: UnsupportedOperationException: it is empty");
         ChunkCode x = Check.chunk(0, 0, 32, 0, 63, 0);
         for (int k : new int[] {1, 31, 33, 62}) {
             Check.dueThrow("get(" + k + ")", UnsupportedOperationException.class, () -> x.get(k));
@@ -258,7 +245,6 @@ public final class BoundaryCellsTest {
     }
 
     private static void sumAdds() {
-        Check.sentence("5: CELLS that are not empty, from a to b, added up");
         // Numbers of which no two sums are the same.
         ChunkCode x = Check.chunk(0, 1, 1, 2, 31, 4, 32, 8, 62, 16, 63, 32);
         Check.due("sum(0, 63)", x.sum(0, 63), 63);
@@ -274,7 +260,6 @@ public final class BoundaryCellsTest {
     }
 
     private static void sumOfNone() {
-        Check.sentence("5: (none if a is above b)");
         ChunkCode x = Check.fullChunk();
         Check.due("sum(1, 0)", x.sum(1, 0), 0);
         Check.due("sum(63, 62)", x.sum(63, 62), 0);
@@ -284,7 +269,6 @@ public final class BoundaryCellsTest {
     }
 
     private static void sumWraps() {
-        Check.sentence("5: (wrapping)");
         ChunkCode x = Check.chunk(0, Long.MAX_VALUE - 1, 1, 1, 2, 1, 3, -1, 4, Long.MIN_VALUE, 5, Long.MIN_VALUE);
         Check.due("sum(0, 1), not yet", x.sum(0, 1), Long.MAX_VALUE);
         Check.due("sum(0, 2)", x.sum(0, 2), Long.MIN_VALUE);
@@ -295,7 +279,6 @@ public final class BoundaryCellsTest {
     }
 
     private static void sumRefuses() {
-        Check.sentence("5: IndexOutOfBoundsException likewise");
         ChunkCode x = Check.fullChunk();
         for (int none : NO_CELLS) {
             for (int cell : new int[] {0, 63}) {

@@ -9,14 +9,16 @@ public final class BoundaryCodeTest {
     }
 
     public static void main(String[] args) {
-        encodeAnswersHowMany();
-        asTheCellsAre();
-        lookedAtUntilDoneAgain();
-        doneAgain();
-        octetsFirstOneHighest();
-        zeroBehindTheEnd();
-        noSuchWord();
-        noneBeforeTheFirstEncode();
+        Check.sentence("6: How many octets THE CODE has", BoundaryCodeTest::encodeAnswersHowMany);
+        Check.sentence("6: as the CELLS are", BoundaryCodeTest::asTheCellsAre);
+        Check.sentence("6: it can be looked at until this is done again",
+            BoundaryCodeTest::lookedAtUntilDoneAgain);
+        Check.sentence("6: until this is done again", BoundaryCodeTest::doneAgain);
+        Check.sentence("7: Octets 8 k to 8 k + 7 of it, the first one highest",
+            BoundaryCodeTest::octetsFirstOneHighest);
+        Check.sentence("7: 0 behind the end", BoundaryCodeTest::zeroBehindTheEnd);
+        Check.sentence("7: IndexOutOfBoundsException: there is none", BoundaryCodeTest::noSuchWord);
+        Check.sentence("7: (of all before the first encode())", BoundaryCodeTest::noneBeforeTheFirstEncode);
         Check.end();
     }
 
@@ -37,7 +39,6 @@ public final class BoundaryCodeTest {
     }
 
     private static void encodeAnswersHowMany() {
-        Check.sentence("6: How many octets THE CODE has");
         Check.due("encode() of no cells", new ChunkCode().encode(), 8);
         Check.due("encode() of one, the fewest", Check.chunk(0, 0).encode(), 10);
         Check.due("encode() of 64 in one run", sameEverywhere().encode(), 10);
@@ -57,7 +58,6 @@ public final class BoundaryCodeTest {
     }
 
     private static void asTheCellsAre() {
-        Check.sentence("6: as the CELLS are");
         ChunkCode x = new ChunkCode();
         Check.due("code at first", Check.hexOfCells(x), "0000000000000000");
         x.put(63, 1);
@@ -76,7 +76,6 @@ public final class BoundaryCodeTest {
     }
 
     private static void lookedAtUntilDoneAgain() {
-        Check.sentence("6: it can be looked at until this is done again");
         staysBehind("put", x -> x.put(0, 6));
         staysBehind("erase", x -> x.erase(0, 63));
         staysBehind("get", x -> x.get(0));
@@ -117,7 +116,6 @@ public final class BoundaryCodeTest {
     }
 
     private static void doneAgain() {
-        Check.sentence("6: until this is done again");
         ChunkCode x = Check.chunk(0, Long.MIN_VALUE);
         Check.due("encode()", x.encode(), 19);
         x.erase(0, 0);
@@ -134,7 +132,6 @@ public final class BoundaryCodeTest {
     }
 
     private static void octetsFirstOneHighest() {
-        Check.sentence("7: Octets 8 k to 8 k + 7 of it, the first one highest");
         ChunkCode x = Check.chunk(1, 1, 10, 3, 19, 6, 28, 10, 37, 15, 46, 21, 55, 28, 56, 36);
         Check.due("encode()", x.encode(), 24);
         Check.due("code(0)", x.code(0), 0x0204081020408001L);
@@ -149,7 +146,6 @@ public final class BoundaryCodeTest {
     }
 
     private static void zeroBehindTheEnd() {
-        Check.sentence("7: 0 behind the end");
         // A code of 10 to 17 octets has 6 octets of 0 behind it, then 5, and so on to none, then 7.
         String[] numbers = {"02", "8001", "808001", "80808001", "8080808001", "808080808001", "80808080808001",
             "8080808080808001"};
@@ -174,12 +170,12 @@ public final class BoundaryCodeTest {
     }
 
     private static void noSuchWord() {
-        Check.sentence("7: IndexOutOfBoundsException: there is none");
         for (int octets : new int[] {8, 10, 15, 16, 17, 18, 24, 25, 704, 705, 711, 712}) {
             ChunkCode x = withOctets(octets);
             x.encode();
             int last = (octets - 1) / 8;
-            Check.due("code(" + last + ") of " + octets + " octets ends", x.code(last) == 0 ? 0 : 1, octets == 8 ? 0 : 1);
+            // Octet 8 * last is there, and is 0 only where no cell is.
+            Check.due("code(" + last + ") of " + octets + " octets is 0", x.code(last) == 0 ? 1 : 0, octets == 8 ? 1 : 0);
             Check.dueThrow("code(" + (last + 1) + ") of " + octets + " octets", IndexOutOfBoundsException.class,
                 () -> x.code(last + 1));
             dueNever(x);
@@ -193,7 +189,6 @@ public final class BoundaryCodeTest {
     }
 
     private static void noneBeforeTheFirstEncode() {
-        Check.sentence("7: (of all before the first encode())");
         ChunkCode x = new ChunkCode();
         Check.dueThrow("code(0)", IndexOutOfBoundsException.class, () -> x.code(0));
         x.put(0, 1);

@@ -1,17 +1,16 @@
 /** The boundaries that promise 11 names: count. */
 public final class BoundaryCountTest {
     public static void main(String[] args) {
-        cells();
-        runs();
-        fed();
-        madeLast();
-        now();
-        others();
+        Check.sentence("11: What 0: CELLS that are not empty", BoundaryCountTest::cells);
+        Check.sentence("11: 1: RUNS", BoundaryCountTest::runs);
+        Check.sentence("11: 2: octets that are fed", BoundaryCountTest::fed);
+        Check.sentence("11: 3: octets of THE CODE that was made last", BoundaryCountTest::madeLast);
+        Check.sentence("11: 4: octets that it would have now", BoundaryCountTest::now);
+        Check.sentence("11: IllegalArgumentException for others", BoundaryCountTest::others);
         Check.end();
     }
 
     private static void cells() {
-        Check.sentence("11: What 0: CELLS that are not empty");
         ChunkCode x = new ChunkCode();
         Check.due("count(0) of none", x.count(0), 0);
         for (int k = 0; k < 64; k++) {
@@ -29,7 +28,6 @@ public final class BoundaryCountTest {
     }
 
     private static void runs() {
-        Check.sentence("11: 1: RUNS");
         ChunkCode x = new ChunkCode();
         Check.due("count(1) of no cells", x.count(1), 0);
         x.put(20, 0);
@@ -54,7 +52,6 @@ public final class BoundaryCountTest {
     }
 
     private static void fed() {
-        Check.sentence("11: 2: octets that are fed");
         ChunkCode x = new ChunkCode();
         Check.due("count(2) of none", x.count(2), 0);
         Check.due("feed", x.feed(0, 1), 1);
@@ -71,7 +68,6 @@ public final class BoundaryCountTest {
     }
 
     private static void madeLast() {
-        Check.sentence("11: 3: octets of THE CODE that was made last");
         ChunkCode x = new ChunkCode();
         Check.due("count(3) before the first", x.count(3), 0);
         x.put(0, 64);
@@ -104,7 +100,6 @@ public final class BoundaryCountTest {
     }
 
     private static void now() {
-        Check.sentence("11: 4: octets that it would have now");
         ChunkCode x = new ChunkCode();
         Check.due("count(4) of no cells", x.count(4), 8);
         x.put(0, 0);
@@ -129,7 +124,6 @@ public final class BoundaryCountTest {
     }
 
     private static void others() {
-        Check.sentence("11: IllegalArgumentException for others");
         ChunkCode x = new ChunkCode();
         for (int what = 0; what <= 4; what++) {
             Check.due("count(" + what + ")", x.count(what), what == 4 ? 8 : 0);

@@ -7,32 +7,46 @@ public final class BoundaryDecodeTest {
     private static final String LONGEST = ALL + ("01" + "ffffffffffffffffff01").repeat(64);
 
     public static void main(String[] args) {
-        theseAreSo();
-        nothingIsFedThen();
-        howManyAreNotEmpty();
-        firstOctetThatCanNotStand();
-        whatStandsBeforeCanBeEnded();
-        howManyZero();
-        howManyAboveWhatIsLeft();
-        oneMoreThanTheCodeHas();
-        endsTooSoon();
-        cellsStay();
-        lastOctetNotNeeded();
-        lastOctetBeyond64Bits();
-        zeroBehindTheFirstRun();
-        wrongOfTheLatest();
-        notWrong();
-        noDecodeYet();
+        Check.sentence("9: What is fed is THE CODE of CELLS: these are so", BoundaryDecodeTest::theseAreSo);
+        Check.sentence("9: (nothing is fed then, WRONG or not)", BoundaryDecodeTest::nothingIsFedThen);
+        Check.sentence("9: how many are not empty", BoundaryDecodeTest::howManyAreNotEmpty);
+        Check.sentence("9: WRONG at its first octet that can not stand where it is",
+            BoundaryDecodeTest::firstOctetThatCanNotStand);
+        Check.sentence("9: WRONG at its first octet that can not stand where it is",
+            BoundaryDecodeTest::whatStandsBeforeCanBeEnded);
+        Check.sentence("9: (how many: 0", BoundaryDecodeTest::howManyZero);
+        Check.sentence("9: or above what is left", BoundaryDecodeTest::howManyAboveWhatIsLeft);
+        Check.sentence("9: one more than THE CODE has)", BoundaryDecodeTest::oneMoreThanTheCodeHas);
+        Check.sentence("9: or at its end if it ends too soon", BoundaryDecodeTest::endsTooSoon);
+        Check.sentence("9: CELLS stay", BoundaryDecodeTest::cellsStay);
+        Check.sentence("9: (Of a number the last octet can not stand if it is not needed",
+            BoundaryDecodeTest::lastOctetNotNeeded);
+        Check.sentence("9: or beyond 64 bits", BoundaryDecodeTest::lastOctetBeyond64Bits);
+        Check.sentence("9: the last octet of one that is 0 behind the first RUN.)",
+            BoundaryDecodeTest::zeroBehindTheFirstRun);
+        Check.sentence("10: Where the latest decode() was WRONG", BoundaryDecodeTest::wrongOfTheLatest);
+        Check.sentence("10: -1 if it was not", BoundaryDecodeTest::notWrong);
+        Check.sentence("10: or there was none", BoundaryDecodeTest::noDecodeYet);
         Check.end();
     }
 
     private static void theseAreSo() {
-        Check.sentence("9: What is fed is THE CODE of CELLS: these are so");
         Decoding.dueCells(NO_CELLS, 0, "");
         Decoding.dueCells(ONE + "0102", 1, "0=1 ");
         Decoding.dueCells("0000000000000080" + "0101", 1, "63=-1 ");
         Decoding.dueCells("8001000000000000" + "0204", 2, "7=2 8=2 ");
         Decoding.dueCells("8001000000000000" + "0104" + "0103", 2, "7=2 8=0 ");
+        // Again and again on one object: nothing of cells that came in before, or were WRONG, is left.
+        ChunkCode x = new ChunkCode();
+        for (int times = 0; times < 3; times++) {
+            dueCellsOn(x, ALL + "4002", 64);
+            dueCellsOn(x, ONE + "0102", 1);
+            Check.feedHex(x, ALL + "3f02" + "0100");
+            Check.dueThrow("decode()", IllegalArgumentException.class, x::decode);
+            dueCellsOn(x, "0000000000000080" + "0104", 1);
+            Check.due("sum(0, 63)", x.sum(0, 63), 2);
+            dueCellsOn(x, NO_CELLS, 0);
+        }
         // Of the longest code, all cells come in, and go out again as they came.
         StringBuilder cells = new StringBuilder();
         for (int k = 0; k < 64; k++) {
@@ -41,8 +55,13 @@ public final class BoundaryDecodeTest {
         Decoding.dueCells(LONGEST, 64, cells.toString());
     }
 
+    private static void dueCellsOn(ChunkCode x, String hex, int many) {
+        Check.feedHex(x, hex);
+        Check.due("decode() of " + hex, x.decode(), many);
+        Check.due("code of what came in", Check.hexOfCells(x), hex);
+    }
+
     private static void nothingIsFedThen() {
-        Check.sentence("9: (nothing is fed then, WRONG or not)");
         ChunkCode right = new ChunkCode();
         Check.feedHex(right, ONE + "0102");
         Check.due("count(2) before decode()", right.count(2), 10);
@@ -67,7 +86,6 @@ public final class BoundaryDecodeTest {
     }
 
     private static void howManyAreNotEmpty() {
-        Check.sentence("9: how many are not empty");
         for (int many = 0; many <= 64; many++) {
             byte[] mask = new byte[8];
             for (int k = 0; k < many; k++) {
@@ -82,11 +100,12 @@ public final class BoundaryDecodeTest {
     }
 
     private static void firstOctetThatCanNotStand() {
-        Check.sentence("9: WRONG at its first octet that can not stand where it is");
         // Each mask stands, so that no octet before the ninth is ever WRONG.
         for (int octet = 0; octet < 256; octet++) {
             String mask = String.format("%02x", octet).repeat(8);
             Decoding.dueWrongAt(octet == 0 ? -1 : 8, mask);
+            int full = 8 * Integer.bitCount(octet);
+            Decoding.dueStands(mask + (octet == 0 ? "" : String.format("%02x00", full)));
         }
         // Two octets that can not stand: the first of them counts, and what comes behind is no matter.
         Decoding.dueWrong(TWO + "00" + "8000", 8);
@@ -104,7 +123,6 @@ public final class BoundaryDecodeTest {
 
     /** What comes before the octet that is WRONG does stand there: some code begins with it. */
     private static void whatStandsBeforeCanBeEnded() {
-        Check.sentence("9: WRONG at its first octet that can not stand where it is");
         String code = "0500000000000080" + "01" + "ffffffffffffffffff01" + "01" + "8180808080808001" + "01" + "8102";
         for (int at = 0; at < code.length() / 2; at++) {
             for (int octet = 0; octet < 256; octet++) {
@@ -130,7 +148,6 @@ public final class BoundaryDecodeTest {
     }
 
     private static void howManyZero() {
-        Check.sentence("9: (how many: 0");
         Decoding.dueWrong(ONE + "00" + "02", 8);
         Decoding.dueStands(ONE + "01" + "02");
         Decoding.dueWrong(ALL + "00" + "02", 8);
@@ -142,7 +159,6 @@ public final class BoundaryDecodeTest {
     }
 
     private static void howManyAboveWhatIsLeft() {
-        Check.sentence("9: or above what is left");
         for (int left = 1; left <= 64; left++) {
             byte[] mask = new byte[8];
             for (int k = 64 - left; k < 64; k++) {
@@ -166,7 +182,6 @@ public final class BoundaryDecodeTest {
     }
 
     private static void oneMoreThanTheCodeHas() {
-        Check.sentence("9: one more than THE CODE has)");
         for (String code : new String[] {NO_CELLS, ONE + "0102", TWO + "0202", TWO + "0102" + "0102", ALL + "4000",
             ONE + "01" + "ffffffffffffffffff01", LONGEST}) {
             int length = code.length() / 2;
@@ -183,7 +198,6 @@ public final class BoundaryDecodeTest {
     }
 
     private static void endsTooSoon() {
-        Check.sentence("9: or at its end if it ends too soon");
         for (String code : new String[] {NO_CELLS, ONE + "0102", ONE + "01" + "8001", ALL + "4000", LONGEST,
             "0500000000000080" + "01" + "ffffffffffffffffff01" + "01" + "8180808080808001" + "01" + "8102"}) {
             int length = code.length() / 2;
@@ -202,7 +216,6 @@ public final class BoundaryDecodeTest {
     }
 
     private static void cellsStay() {
-        Check.sentence("9: CELLS stay");
         // All but the very last octet could be read.
         Decoding.dueWrong(ALL + "3f02" + "0100", 11);
         Decoding.dueWrong(ALL + "4002" + "00", 10);
@@ -228,7 +241,6 @@ public final class BoundaryDecodeTest {
     }
 
     private static void lastOctetNotNeeded() {
-        Check.sentence("9: (Of a number the last octet can not stand if it is not needed");
         for (int more = 1; more <= 9; more++) {
             for (String octet : new String[] {"80", "81", "ff"}) {
                 String number = octet.repeat(more);
@@ -246,7 +258,6 @@ public final class BoundaryDecodeTest {
     }
 
     private static void lastOctetBeyond64Bits() {
-        Check.sentence("9: or beyond 64 bits");
         for (String nine : new String[] {"80".repeat(9), "ff".repeat(9), "81" + "80".repeat(8)}) {
             Decoding.dueStands(ONE + "01" + nine + "01");
             Decoding.dueStands(TWO + "01" + "02" + "01" + nine + "01");
@@ -267,12 +278,14 @@ public final class BoundaryDecodeTest {
     }
 
     private static void zeroBehindTheFirstRun() {
-        Check.sentence("9: the last octet of one that is 0 behind the first RUN.)");
         Decoding.dueStands(ONE + "0100");
         Decoding.dueStands(TWO + "0200");
         Decoding.dueStands(TWO + "0100" + "0101");
         Decoding.dueStands(TWO + "0100" + "0102");
-        Decoding.dueStands(TWO + "0102" + "0180" + "01");
+        Decoding.dueStands(TWO + "0102" + "01" + "8001");
+        // Many bits that are 0 are not all of them.
+        Decoding.dueStands(TWO + "0102" + "01" + "8080808010");
+        Decoding.dueStands(TWO + "0102" + "01" + "80".repeat(9) + "01");
         Decoding.dueWrong(TWO + "0100" + "0100", 11);
         Decoding.dueWrong(TWO + "0102" + "0100", 11);
         Decoding.dueWrong(TWO + "0102" + "018000", 12);
@@ -288,7 +301,6 @@ public final class BoundaryDecodeTest {
     }
 
     private static void wrongOfTheLatest() {
-        Check.sentence("10: Where the latest decode() was WRONG");
         ChunkCode x = new ChunkCode();
         Check.dueThrow("decode() of nothing", IllegalArgumentException.class, x::decode);
         Check.due("wrong() at the first octet of all", x.wrong(), 0);
@@ -311,7 +323,6 @@ public final class BoundaryDecodeTest {
     }
 
     private static void notWrong() {
-        Check.sentence("10: -1 if it was not");
         ChunkCode x = new ChunkCode();
         x.feed(0, 8);
         x.decode();
@@ -325,7 +336,6 @@ public final class BoundaryDecodeTest {
     }
 
     private static void noDecodeYet() {
-        Check.sentence("10: or there was none");
         ChunkCode x = new ChunkCode();
         Check.due("wrong() of a new object", x.wrong(), -1);
         Check.dueThrow("feed(0, 0)", IllegalArgumentException.class, () -> x.feed(0, 0));

@@ -1,11 +1,13 @@
 /** The boundaries that promise 8 names: feed. */
 public final class BoundaryFeedTest {
     public static void main(String[] args) {
-        firstOctetsHighestFirst();
-        howManyAreFed();
-        sizes();
-        notMoreThanAThousand();
-        roomAgainBehindDecode();
+        Check.sentence("8: The n first octets of w (the highest first) come to what is fed",
+            BoundaryFeedTest::firstOctetsHighestFirst);
+        Check.sentence("8: how many are", BoundaryFeedTest::howManyAreFed);
+        Check.sentence("8: IllegalArgumentException: n is not 1..8", BoundaryFeedTest::sizes);
+        Check.sentence("8: IndexOutOfBoundsException: there would be more than 1000",
+            BoundaryFeedTest::notMoreThanAThousand);
+        Check.sentence("8: there would be more than 1000", BoundaryFeedTest::roomAgainBehindDecode);
         Check.end();
     }
 
@@ -16,7 +18,6 @@ public final class BoundaryFeedTest {
     }
 
     private static void firstOctetsHighestFirst() {
-        Check.sentence("8: The n first octets of w (the highest first) come to what is fed");
         byte[] code = Check.octetsOf("ff00000000000080 01 ff02 02 8301 05 84808080808080808001 01 01");
         String cells = "0=-192 1=-258 2=-258 3=" + (4611686018427387906L - 258) + " 4=" + (4611686018427387906L - 258)
             + " 5=" + (4611686018427387906L - 258) + " 6=" + (4611686018427387906L - 258)
@@ -42,7 +43,6 @@ public final class BoundaryFeedTest {
     }
 
     private static void howManyAreFed() {
-        Check.sentence("8: how many are");
         ChunkCode x = new ChunkCode();
         int fed = 0;
         for (int n = 1; n <= 8; n++) {
@@ -53,7 +53,6 @@ public final class BoundaryFeedTest {
     }
 
     private static void sizes() {
-        Check.sentence("8: IllegalArgumentException: n is not 1..8");
         for (int n = 1; n <= 8; n++) {
             Check.due("feed(-1, " + n + ")", new ChunkCode().feed(-1, n), n);
         }
@@ -67,7 +66,6 @@ public final class BoundaryFeedTest {
     }
 
     private static void notMoreThanAThousand() {
-        Check.sentence("8: IndexOutOfBoundsException: there would be more than 1000");
         for (int n = 1; n <= 8; n++) {
             int octets = n;
             ChunkCode x = new ChunkCode();
@@ -85,7 +83,6 @@ public final class BoundaryFeedTest {
     }
 
     private static void roomAgainBehindDecode() {
-        Check.sentence("8: there would be more than 1000");
         ChunkCode x = new ChunkCode();
         for (int times = 0; times < 3; times++) {
             feed(x, 1000);

@@ -4,20 +4,22 @@ public final class BoundaryTermsTest {
     private static final String TWO = "0300000000000000";
 
     public static void main(String[] args) {
-        cells();
-        emptyAtFirst();
-        numbersOf64Bits();
-        maskBits();
-        runsPassOverEmptyCells();
-        runsTakeAllOfTheSameNumber();
-        howManyIsAnOctet();
-        stepFromTheRunBefore();
-        stepOfTheFirstRun();
-        stepWraps();
-        foldedWithoutSign();
-        sevenBitsLowestFirst();
-        asFewOctetsAsCanBe();
-        oneOctetAtLeast();
+        Check.sentence("CELLS 0..63", BoundaryTermsTest::cells);
+        Check.sentence("each empty (at first)", BoundaryTermsTest::emptyAtFirst);
+        Check.sentence("or a number of 64 bits", BoundaryTermsTest::numbersOf64Bits);
+        Check.sentence("bit k % 8 of octet k / 8 is 1 if CELL k is not empty", BoundaryTermsTest::maskBits);
+        Check.sentence("CELLS that are not empty, one behind the other but for empty ones between",
+            BoundaryTermsTest::runsPassOverEmptyCells);
+        Check.sentence("as many as have the same number", BoundaryTermsTest::runsTakeAllOfTheSameNumber);
+        Check.sentence("how many (an octet)", BoundaryTermsTest::howManyIsAnOctet);
+        Check.sentence("of d, its number less that of the RUN before", BoundaryTermsTest::stepFromTheRunBefore);
+        Check.sentence("(0 before the first; wrapping)", BoundaryTermsTest::stepOfTheFirstRun);
+        Check.sentence("(0 before the first; wrapping)", BoundaryTermsTest::stepWraps);
+        Check.sentence("(d << 1) ^ (d >> 63), without sign", BoundaryTermsTest::foldedWithoutSign);
+        Check.sentence("7 bits an octet, the lowest first, 128 more in each but the last one",
+            BoundaryTermsTest::sevenBitsLowestFirst);
+        Check.sentence("as few octets as can be", BoundaryTermsTest::asFewOctetsAsCanBe);
+        Check.sentence("(one at least)", BoundaryTermsTest::oneOctetAtLeast);
         Check.end();
     }
 
@@ -26,7 +28,6 @@ public final class BoundaryTermsTest {
     }
 
     private static void cells() {
-        Check.sentence("CELLS 0..63");
         for (int k : new int[] {0, 1, 31, 32, 62, 63}) {
             ChunkCode x = Check.chunk(k, 7);
             Check.due("get(" + k + ")", x.get(k), 7);
@@ -45,7 +46,6 @@ public final class BoundaryTermsTest {
     }
 
     private static void emptyAtFirst() {
-        Check.sentence("each empty (at first)");
         for (int k = 0; k < 64; k++) {
             int cell = k;
             ChunkCode x = new ChunkCode();
@@ -56,7 +56,6 @@ public final class BoundaryTermsTest {
     }
 
     private static void numbersOf64Bits() {
-        Check.sentence("or a number of 64 bits");
         for (int bit = 0; bit < 64; bit++) {
             for (long v : new long[] {1L << bit, (1L << bit) - 1, -(1L << bit), ~(1L << bit)}) {
                 ChunkCode x = Check.chunk(bit, v);
@@ -70,7 +69,6 @@ public final class BoundaryTermsTest {
     }
 
     private static void maskBits() {
-        Check.sentence("bit k % 8 of octet k / 8 is 1 if CELL k is not empty");
         String mask0 = "0000000000000000";
         dueCode(new ChunkCode(), mask0);
         dueCode(Check.chunk(0, 0), "0100000000000000" + "0100");
@@ -89,7 +87,6 @@ public final class BoundaryTermsTest {
     }
 
     private static void runsPassOverEmptyCells() {
-        Check.sentence("CELLS that are not empty, one behind the other but for empty ones between");
         dueCode(Check.chunk(0, 3, 1, 3), TWO + "0206");
         dueCode(Check.chunk(0, 3, 2, 3), "0500000000000000" + "0206");
         dueCode(Check.chunk(0, 3, 63, 3), "0100000000000080" + "0206");
@@ -106,7 +103,6 @@ public final class BoundaryTermsTest {
     }
 
     private static void runsTakeAllOfTheSameNumber() {
-        Check.sentence("as many as have the same number");
         ChunkCode same = new ChunkCode();
         for (int k = 0; k < 64; k++) {
             same.put(k, 1L << 32);
@@ -123,7 +119,6 @@ public final class BoundaryTermsTest {
     }
 
     private static void howManyIsAnOctet() {
-        Check.sentence("how many (an octet)");
         for (int many = 1; many <= 64; many++) {
             ChunkCode x = new ChunkCode();
             for (int k = 0; k < 64; k++) {
@@ -135,7 +130,6 @@ public final class BoundaryTermsTest {
     }
 
     private static void stepFromTheRunBefore() {
-        Check.sentence("of d, its number less that of the RUN before");
         dueCode(Check.chunk(0, 10, 1, 11), TWO + "0114" + "0102");
         dueCode(Check.chunk(0, 10, 1, 9), TWO + "0114" + "0101");
         dueCode(Check.chunk(0, 10, 1, 0), TWO + "0114" + "0113");
@@ -145,7 +139,6 @@ public final class BoundaryTermsTest {
     }
 
     private static void stepOfTheFirstRun() {
-        Check.sentence("(0 before the first; wrapping)");
         dueCode(Check.chunk(0, 0), ONE + "00");
         dueCode(Check.chunk(0, 1), ONE + "02");
         dueCode(Check.chunk(63, 1), "0000000000000080" + "0102");
@@ -159,7 +152,6 @@ public final class BoundaryTermsTest {
     }
 
     private static void stepWraps() {
-        Check.sentence("(0 before the first; wrapping)");
         String max = "feffffffffffffffff01";
         String min = "ffffffffffffffffff01";
         // The highest step that does not wrap, and the first that does.
@@ -174,7 +166,6 @@ public final class BoundaryTermsTest {
     }
 
     private static void foldedWithoutSign() {
-        Check.sentence("(d << 1) ^ (d >> 63), without sign");
         dueCode(Check.chunk(0, 0), ONE + "00");
         dueCode(Check.chunk(0, -1), ONE + "01");
         dueCode(Check.chunk(0, 1), ONE + "02");
@@ -189,7 +180,6 @@ public final class BoundaryTermsTest {
     }
 
     private static void sevenBitsLowestFirst() {
-        Check.sentence("7 bits an octet, the lowest first, 128 more in each but the last one");
         // Each octet of the number has other bits: 1, then 1 and 2, and so on to ten octets.
         StringBuilder more = new StringBuilder();
         long folded = 0;
@@ -203,7 +193,6 @@ public final class BoundaryTermsTest {
     }
 
     private static void asFewOctetsAsCanBe() {
-        Check.sentence("as few octets as can be");
         for (int octets = 1; octets <= 9; octets++) {
             long firstOfMore = 1L << (7 * octets - 1);
             dueCode(Check.chunk(0, -firstOfMore), ONE + "ff".repeat(octets - 1) + "7f");
@@ -216,7 +205,6 @@ public final class BoundaryTermsTest {
     }
 
     private static void oneOctetAtLeast() {
-        Check.sentence("(one at least)");
         dueCode(Check.chunk(0, 0), ONE + "00");
         dueCode(Check.chunk(5, 0, 6, 0), "6000000000000000" + "0200");
         dueCode(Check.chunk(0, 0, 1, 1), TWO + "0100" + "0102");

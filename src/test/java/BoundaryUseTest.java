@@ -1,15 +1,14 @@
 /** "What it is": how long an object is used, on both sides of its last call. */
 public final class BoundaryUseTest {
+    private static final String USED = "An object is used for at most 512 calls after it has been made";
     private static final int CALLS = 512;
     private static final long[] LONGEST = longestCode();
 
     public static void main(String[] args) {
-        Check.sentence("An object is used for at most 512 calls after it has been made");
-        theLastCallAnswers();
-        theLastCallRefuses();
-        oneKindOfCallAllAlong();
-        Check.sentence("what later calls answer is free");
-        laterCallsEndAndThrowNothingElse();
+        Check.sentence(USED, BoundaryUseTest::theLastCallAnswers);
+        Check.sentence(USED, BoundaryUseTest::theLastCallRefuses);
+        Check.sentence(USED, BoundaryUseTest::oneKindOfCallAllAlong);
+        Check.sentence("what later calls answer is free", BoundaryUseTest::laterCallsEndAndThrowNothingElse);
         Check.end();
     }
 

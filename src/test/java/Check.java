@@ -11,9 +11,24 @@ final class Check {
     private Check() {
     }
 
-    /** The document's sentence that is tested from here on: a failure tells it. */
-    static void sentence(String text) {
+    /** The test of one sentence of the document, which its failures tell; those behind it run also if it throws. */
+    static void sentence(String text, Runnable test) {
         sentence = " | " + text;
+        try {
+            test.run();
+        } catch (RuntimeException e) {
+            failed("a call threw " + e + " where an answer is due, " + placeOf(e));
+        }
+        sentence = "";
+    }
+
+    private static String placeOf(RuntimeException e) {
+        for (StackTraceElement place : e.getStackTrace()) {
+            if (place.getClassName().endsWith("Test")) {
+                return place.toString();
+            }
+        }
+        return "no place of a test";
     }
 
     static void due(String what, long got, long want) {

@@ -21,6 +21,8 @@ public final class FaceTest {
 
     public static void main(String[] args) {
         Check.due("class", Modifier.toString(ChunkCode.class.getModifiers()), "public final");
+        Check.due("superclass", ChunkCode.class.getSuperclass().getName(), "java.lang.Object");
+        Check.due("interfaces", ChunkCode.class.getInterfaces().length, 0);
         TreeSet<String> due = new TreeSet<>(java.util.List.of(FACE));
         TreeSet<String> seen = new TreeSet<>();
         for (Method method : ChunkCode.class.getDeclaredMethods()) {
@@ -34,6 +36,11 @@ public final class FaceTest {
         Check.due("constructor", constructors[0].toString(), "public ChunkCode()");
         for (Field field : ChunkCode.class.getDeclaredFields()) {
             Check.due(field.getName() + " private", Modifier.isPrivate(field.getModifiers()) ? 1 : 0, 1);
+        }
+        for (Class<?> inside : ChunkCode.class.getDeclaredClasses()) {
+            int modifiers = inside.getModifiers();
+            boolean hidden = !Modifier.isPublic(modifiers) && !Modifier.isProtected(modifiers);
+            Check.due(inside.getName() + " hidden and static", hidden && Modifier.isStatic(modifiers) ? 1 : 0, 1);
         }
         Check.end();
     }
