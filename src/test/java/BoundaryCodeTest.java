@@ -175,7 +175,8 @@ public final class BoundaryCodeTest {
             x.encode();
             int last = (octets - 1) / 8;
             // Octet 8 * last is there, and is 0 only where no cell is.
-            Check.due("code(" + last + ") of " + octets + " octets is 0", x.code(last) == 0 ? 1 : 0, octets == 8 ? 1 : 0);
+            Check.due("code(" + last + ") of " + octets + " octets is 0",
+                x.code(last) == 0 ? 1 : 0, octets == 8 ? 1 : 0);
             Check.dueThrow("code(" + (last + 1) + ") of " + octets + " octets", IndexOutOfBoundsException.class,
                 () -> x.code(last + 1));
             dueNever(x);
